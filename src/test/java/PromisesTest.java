@@ -684,6 +684,8 @@ public final class PromisesTest {
         is("just from the switch, native", x.differencesAt(2), 1);
         is("just from the switch, tagged", x.differencesAt(4), 1);
         is("not at the others", x.differencesAt(1), 0);
+        x.clear();
+        is("no frames any more", x.differencesAt(4), 0);
         int[] far = {-1, 6, Integer.MIN_VALUE, Integer.MAX_VALUE};
         for (int port : far) {
             fails("port " + port, INDEX, () -> x.differencesAt(port));
@@ -792,6 +794,14 @@ public final class PromisesTest {
         x.add(2, 0, 0, 3);
         is("a frame that leaves at both rules dead out", x.explanations(), 1);
         is("strict and strict", 100 * x.blamed(0) + x.blamed(1), 313);
+        x.begin(6);
+        x.add(0, 0, 0, 3);
+        x.add(1, 0, 1, 0);
+        x.fault(0, DEAF);
+        is("deaf at the first of six ports", x.explanations(), 1);
+        x.fault(5, DEAD);
+        is("and dead at the last", x.explanations(), 1);
+        is("both are told", 100 * x.blamed(0) + x.blamed(1), 150);
     }
 
     private static void answersFollowEveryChange() {
