@@ -685,6 +685,10 @@ public final class PromisesTest {
         is("just from the switch, tagged", x.differencesAt(4), 1);
         is("not at the others", x.differencesAt(1), 0);
         x.clear();
+        x.fault(4, BARE);
+        x.add(0, 0, 0, 3);
+        is("the first frame", x.differencesAt(4), 1);
+        x.clear();
         is("no frames any more", x.differencesAt(4), 0);
         int[] far = {-1, 6, Integer.MIN_VALUE, Integer.MAX_VALUE};
         for (int port : far) {
