@@ -1,8 +1,11 @@
+import java.io.IOException;
 import java.lang.reflect.Constructor;
 import java.lang.reflect.Field;
 import java.lang.reflect.Member;
 import java.lang.reflect.Method;
 import java.lang.reflect.Modifier;
+import java.nio.file.Files;
+import java.nio.file.Path;
 import java.util.ArrayList;
 import java.util.Arrays;
 import java.util.HashSet;
@@ -12,71 +15,127 @@ import java.util.TreeSet;
 
 /** The class shows the face of the document and nothing else. */
 public final class FaceTest {
+    private static final Path DOCUMENT = Path.of("..", "shared", "DOC.md");
     private static final String I = " throws IndexOutOfBoundsException";
     private static final String A = " throws IllegalArgumentException";
     private static final String S = " throws IllegalStateException";
-    private static final String IA = I + " IllegalArgumentException";
+    private static final String IA = I + ", IllegalArgumentException";
+    private static final String CONSTANT = "public static final int ";
 
     private static final List<String> FACE = List.of(
-            "VlanProbe()",
-            "void begin(int)" + A,
-            "int ports()",
-            "void access(int,int)" + IA,
-            "void trunk(int,int,int)" + IA,
-            "boolean fault(int,int)" + IA,
-            "int add(int,int,int,int)" + IA + " IllegalStateException",
-            "int cover()" + S,
-            "void clear()",
-            "int frames()",
-            "int frameAt(int)" + I,
-            "int pairs()",
-            "int pairsMet()",
-            "int expected(int)" + I,
-            "int expectedTagged(int)" + I,
-            "int reason(int)" + I,
-            "int learned(int,int)" + A,
-            "int seen(int)" + I,
-            "int seenTagged(int)" + I,
-            "long differing()",
-            "int differencesAt(int)" + I,
-            "int blame()",
-            "int blamed(int)" + I,
-            "int explanations()",
-            "NONE", "DEAD", "DEAF", "BARE", "STRICT", "LOOSE",
-            "LEAVES", "TAGGED", "UNTAGGED", "FOREIGN", "LOCAL", "NOWHERE");
+            "public final class VlanProbe",
+            "public VlanProbe()",
+            "public void begin(int)" + A,
+            "public int ports()",
+            "public void access(int, int)" + IA,
+            "public void trunk(int, int, int)" + IA,
+            "public boolean fault(int, int)" + IA,
+            "public int add(int, int, int, int)" + IA + ", IllegalStateException",
+            "public int cover()" + S,
+            "public void clear()",
+            "public int frames()",
+            "public int frameAt(int)" + I,
+            "public int pairs()",
+            "public int pairsMet()",
+            "public int expected(int)" + I,
+            "public int expectedTagged(int)" + I,
+            "public int reason(int)" + I,
+            "public int learned(int, int)" + A,
+            "public int seen(int)" + I,
+            "public int seenTagged(int)" + I,
+            "public long differing()",
+            "public int differencesAt(int)" + I,
+            "public int blame()",
+            "public int blamed(int)" + I,
+            "public int explanations()",
+            CONSTANT + "NONE = -1",
+            CONSTANT + "DEAD = 0", CONSTANT + "DEAF = 1", CONSTANT + "BARE = 2",
+            CONSTANT + "STRICT = 3", CONSTANT + "LOOSE = 4",
+            CONSTANT + "LEAVES = 0", CONSTANT + "TAGGED = 1", CONSTANT + "UNTAGGED = 2",
+            CONSTANT + "FOREIGN = 3", CONSTANT + "LOCAL = 4", CONSTANT + "NOWHERE = 5");
 
-    public static void main(String[] args) {
-        Set<String> missing = new TreeSet<>(FACE);
-        Set<String> surplus = new TreeSet<>(faceOf(VlanProbe.class));
-        surplus.removeAll(FACE);
-        missing.removeAll(faceOf(VlanProbe.class));
-        surplus.addAll(privateNamesakes());
-        int modifiers = VlanProbe.class.getModifiers();
-        boolean asDue = Modifier.isPublic(modifiers) && Modifier.isFinal(modifiers)
-                && missing.isEmpty() && surplus.isEmpty();
-        System.out.println(asDue ? "the face is as due" : "missing " + missing + ", too much " + surplus);
-        if (!asDue) {
+    private static int wrong = 0;
+
+    public static void main(String[] args) throws IllegalAccessException {
+        compare("the class", faceOf(VlanProbe.class));
+        compare("the document", faceInDocument());
+        for (String name : privateNamesakes()) {
+            tell("bears the name of a method of the face: " + name);
+        }
+        for (Class<?> inside : VlanProbe.class.getDeclaredClasses()) {
+            int modifiers = inside.getModifiers();
+            if (Modifier.isPublic(modifiers) || Modifier.isProtected(modifiers)) {
+                tell("a class inside is shown: " + inside.getSimpleName());
+            }
+        }
+        System.out.println(wrong == 0 ? "the face is as due" : wrong + " things of the face are wrong");
+        if (wrong != 0) {
             System.exit(1);
         }
     }
 
-    private static Set<String> faceOf(Class<?> type) {
-        Set<String> face = new HashSet<>();
+    private static void compare(String whose, Set<String> face) {
+        for (String one : FACE) {
+            if (!face.contains(one)) {
+                tell(whose + " has not: " + one);
+            }
+        }
+        for (String one : face) {
+            if (!FACE.contains(one)) {
+                tell(whose + " has too: " + one);
+            }
+        }
+    }
+
+    private static void tell(String what) {
+        wrong++;
+        System.out.println(what);
+    }
+
+    // ---- the face of the class
+
+    private static Set<String> faceOf(Class<?> type) throws IllegalAccessException {
+        Set<String> face = new TreeSet<>();
+        face.add(Modifier.toString(type.getModifiers()) + " class " + type.getName());
         for (Constructor<?> made : type.getDeclaredConstructors()) {
-            face.add(type.getSimpleName() + signature(made.getParameterTypes(), made.getExceptionTypes()));
+            face.add(modifiersOf(made) + type.getSimpleName()
+                    + signature(made.getParameterTypes(), made.getExceptionTypes()));
         }
         for (Method method : type.getDeclaredMethods()) {
             if (isShown(method)) {
-                face.add(method.getReturnType() + " " + method.getName()
+                face.add(modifiersOf(method) + method.getReturnType() + " " + method.getName()
                         + signature(method.getParameterTypes(), method.getExceptionTypes()));
             }
         }
         for (Field field : type.getDeclaredFields()) {
             if (isShown(field)) {
-                face.add(field.getName());
+                String value = Modifier.isStatic(field.getModifiers()) ? " = " + field.get(null) : "";
+                face.add(modifiersOf(field) + field.getType() + " " + field.getName() + value);
             }
         }
         return face;
+    }
+
+    private static String modifiersOf(Member member) {
+        String modifiers = Modifier.toString(member.getModifiers());
+        return modifiers.isEmpty() ? "" : modifiers + " ";
+    }
+
+    private static boolean isShown(Member member) {
+        return !Modifier.isPrivate(member.getModifiers()) && !member.isSynthetic();
+    }
+
+    private static String signature(Class<?>[] parameters, Class<?>[] thrown) {
+        String text = "(" + namesOf(parameters) + ")";
+        return thrown.length == 0 ? text : text + " throws " + namesOf(thrown);
+    }
+
+    private static String namesOf(Class<?>[] types) {
+        List<String> names = new ArrayList<>();
+        for (Class<?> type : types) {
+            names.add(type.getSimpleName());
+        }
+        return String.join(", ", names);
     }
 
     private static Set<String> privateNamesakes() {
@@ -100,19 +159,30 @@ public final class FaceTest {
         return found;
     }
 
-    private static boolean isShown(Member member) {
-        return !Modifier.isPrivate(member.getModifiers()) && !member.isSynthetic();
-    }
+    // ---- the face that the document shows
 
-    private static String signature(Class<?>[] parameters, Class<?>[] thrown) {
-        List<String> names = new ArrayList<>();
-        for (Class<?> parameter : parameters) {
-            names.add(parameter.getName());
+    private static Set<String> faceInDocument() {
+        String document;
+        try {
+            document = Files.readString(DOCUMENT);
+        } catch (IOException e) {
+            System.out.println("the face is not compared with the document, which is not there");
+            return new TreeSet<>(FACE);
         }
-        StringBuilder text = new StringBuilder("(" + String.join(",", names) + ")");
-        for (int k = 0; k < thrown.length; k++) {
-            text.append(k == 0 ? " throws " : " ").append(thrown[k].getSimpleName());
+        Set<String> face = new TreeSet<>();
+        int start = document.indexOf("```java\n");
+        int end = document.indexOf("```", start + 8);
+        String block = start < 0 || end < 0 ? "" : document.substring(start + 8, end);
+        for (String line : block.split("\n")) {
+            String told = line.strip().replaceAll("\\s*[;{}]$", "");
+            if (told.startsWith(CONSTANT)) {
+                for (String constant : told.substring(CONSTANT.length()).split(", ")) {
+                    face.add(CONSTANT + constant);
+                }
+            } else if (!told.isEmpty()) {
+                face.add(told.replaceAll("\\b(int|long|boolean) \\w+(?=[,)])", "$1"));
+            }
         }
-        return text.toString();
+        return face;
     }
 }
